@@ -9,7 +9,10 @@ public final class BurnsTest {
         bestGoesRoundAnother();
         bestMakesNoOtherMeeting();
         bestNeedsMoreFuel();
+        bestPushesUpwards();
         bestBehindAMeetingIsNone();
+        bestSeesMeetingsBetweenSteps();
+        bestOfALaterNumber();
         bestWithTheLastStepIsNone();
         bestRefusals();
         burn();
@@ -95,6 +98,42 @@ public final class BurnsTest {
         dueBest("five of fuel", m, 0, 0, 5, 0, -2, -2, -1);
         m.rule(0, 4);
         dueBest("no push is enough", m, 0, 0, NONE, NONE, 0, 0, 0);
+    }
+
+    private static void bestPushesUpwards() {
+        MeetingsAbove m = new MeetingsAbove();
+        m.rule(0, 5);
+        rests(m, 0, 2, 0, 0, 0);
+        m.thing(1, -1, -1, -1, 0);
+        // 3 times 9 is enough for 25; 9 and 9 and 4 is not.
+        dueBest("all six of fuel", m, 0, 0, 6, 0, 2, 2, 2);
+        m.rule(0, 6);
+        dueBest("not enough", m, 0, 0, NONE, NONE, 0, 0, 0);
+    }
+
+    private static void bestSeesMeetingsBetweenSteps() {
+        MeetingsAbove m = new MeetingsAbove();
+        m.rule(0, 2);
+        rests(m, 0, 4, 0, 0, 0);
+        m.thing(1, 0, 100, 0, 0);
+        m.place(1, 0, -100, 0);
+        m.place(1, 0, -100, 0);
+        dueBest("behind the pass", m, 0, 2, NONE, NONE, 0, 0, 0);
+        // At the pass, one and a half steps behind step 0, a push of 2 makes 3, one of 1 not 2.
+        dueBest("ahead of it", m, 0, 0, 2, 0, -2, 0, 0);
+        dueBest("half a step ahead of it", m, 0, 1, NONE, NONE, 0, 0, 0);
+    }
+
+    private static void bestOfALaterNumber() {
+        MeetingsAbove m = new MeetingsAbove();
+        m.rule(0, 10);
+        m.thing(5, 8, 0, 0, 0);
+        m.thing(5, 0, 8, 0, 0);
+        rests(m, 0, 6, 0, 0, 0);
+        m.thing(5, 0, 0, -30, 0);
+        // Away from one alone it meets the other; by 2 and 2 the squares are 104.
+        dueBest("away from both", m, 2, 0, 2, 3, -1, -1, 0);
+        Due.is("it is done", m.burn(2, 3, -1, -1, 0), 0);
     }
 
     private static void bestBehindAMeetingIsNone() {

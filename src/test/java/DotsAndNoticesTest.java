@@ -85,6 +85,7 @@ public final class DotsAndNoticesTest {
         m.thing(0, 10, 0, 0, 0);
         m.thing(0, 20, 0, 0, 0);
         Due.is("notice", m.notice(1, 0), 0);
+        Due.is("the first one holds", m.count(8), 1);
         Due.is("of two others", m.notice(1, 2), 1);
         Due.is("of two others", m.notice(2, 0), 2);
         Due.is("of the same two", m.notice(0, 1), 3);

@@ -186,6 +186,9 @@ public final class MeetingsTest {
         dueLeast("only one step together", m, 0, 1, 2500, 1, 2, 0, 1);
         Due.is("just NEAR is not below it", m.count(2), 0);
         path(m, 3, 0, 0, 0);
+        path(m, 2, 0, 0, 0, 500, 0, 0, 0, 0, 0);
+        dueLeast("not where only one goes on", m, 0, 3, 2500, 1, 2, 0, 1);
+        Due.is("nor do they meet there", m.told(0, 4), 0);
         Due.is("not together", m.least(0, 2, 0), NOT);
         Due.is("not together, the other way", m.least(2, 0, 4), NOT);
     }

@@ -209,6 +209,11 @@ public final class ThingsTest {
         m.thing(0, 0, 0, 0, 0);
         m.place(13, 0, 5000, 0);
         Due.is("y too high", m.breaks(13, 0, 2), NOT);
+        m = new MeetingsAbove();
+        m.thing(0, 0, 0, 0, 0);
+        m.place(0, 0, 0, 5000);
+        m.place(0, 0, 0, -5000);
+        Due.is("z stays as it is", m.breaks(0, 0, 2), 1);
     }
 
     private static void rule() {
@@ -238,7 +243,13 @@ public final class ThingsTest {
         m.gone(0);
         Due.is("it is gone", m.told(0, 3), 1);
         Due.is("what is gone meets none", m.told(0, 4), 0);
-        Due.is("no such thing", m.told(3, 9), UNKNOWN);
+        m.thing(0, 0, 0, 0, 0);
+        m.thing(0, 0, 0, 49, 0);
+        Due.is("at step 0", m.told(3, 4), 1);
+        m.thing(39, 0, 0, 0, 0);
+        m.thing(39, 0, 49, 0, 0);
+        Due.is("at step 39", m.told(5, 4), 1);
+        Due.is("no such thing", m.told(7, 9), UNKNOWN);
         Due.is("what", m.told(0, 5), OUTSIDE);
         Due.is("what", m.told(0, -1), OUTSIDE);
     }
