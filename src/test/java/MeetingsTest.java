@@ -157,6 +157,10 @@ public final class MeetingsTest {
         path(m, 0, 20, 0, 0, 0, 0, 0, -20, 0, 0);
         path(m, 0, 0, 0, 0, 0, 0, 0, 0, 0, 0);
         dueLeast("no distance", m, 0, 1, 0, 1, 1, 0, 1);
+        m = new MeetingsAbove();
+        path(m, 39, 0, 0, 0);
+        path(m, 39, 1, 0, 0);
+        dueLeast("at the only step", m, 0, 1, 1, 1, 39, 0, 1);
     }
 
     /** In the last two, products of the fractions of both ways leave a long and would mislead. */
