@@ -82,7 +82,8 @@ public final class AgainstPlainModelTest {
             both(text, "best", 0, 0, what);
             both(text, "best", 0, places / 2, what);
         }
-        both(text, "burn", 0, Math.max(0, model.best(0, 0, 1)), model.best(0, 0, 2), model.best(0, 0, 3), model.best(0, 0, 4));
+        both(text, "burn", 0, Math.max(0, model.best(0, 0, 1)),
+            model.best(0, 0, 2), model.best(0, 0, 3), model.best(0, 0, 4));
         both(text, "told", 0, 4);
     }
 
@@ -151,29 +152,7 @@ public final class AgainstPlainModelTest {
     }
 
     private long real(String name, int[] a) {
-        switch (name) {
-            case "thing": return real.thing(a[0], a[1], a[2], a[3], a[4]);
-            case "place": return real.place(a[0], a[1], a[2], a[3]);
-            case "gone": return real.gone(a[0]);
-            case "breaks": return real.breaks(a[0], a[1], a[2]);
-            case "rule": return real.rule(a[0], a[1]);
-            case "told": return real.told(a[0], a[1]);
-            case "at": return real.at(a[0], a[1], a[2]);
-            case "count": return real.count(a[0]);
-            case "sieve": return real.sieve(a[0], a[1]);
-            case "least": return real.least(a[0], a[1], a[2]);
-            case "meeting": return real.meeting(a[0], a[1]);
-            case "share": return real.share(a[0], a[1], a[2], a[3]);
-            case "best": return real.best(a[0], a[1], a[2]);
-            case "burn": return real.burn(a[0], a[1], a[2], a[3], a[4]);
-            case "dot": return real.dot(a[0], a[1], a[2], a[3]);
-            case "dotted": return real.dotted(a[0], a[1]);
-            case "notice": return real.notice(a[0], a[1]);
-            case "answer": return real.answer(a[0], a[1], a[2]);
-            case "noticed": return real.noticed(a[0], a[1]);
-            case "keep": return real.keep(a[0]);
-            default: return real.differs(a[0]);
-        }
+        return new Call(name, a).on(real);
     }
 
     private long plain(String name, int[] a) {

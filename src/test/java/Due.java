@@ -2,8 +2,14 @@
 final class Due {
     private static int right = 0;
     private static int wrong = 0;
+    private static String about = "";
 
     private Due() {
+    }
+
+    /** What the next answers are asked for, told ahead of each one that is wrong. */
+    static void about(String what) {
+        about = what;
     }
 
     static void is(String what, long got, long want) {
@@ -11,12 +17,16 @@ final class Due {
             right++;
         } else {
             wrong++;
-            System.out.println(what + " answered " + got + ", due is " + want);
+            System.out.println(about + what + " answered " + got + ", due is " + want);
         }
     }
 
     static void holds(String what, boolean it) {
         is(what, it ? 1 : 0, 1);
+    }
+
+    static int asked() {
+        return right + wrong;
     }
 
     static void end() {

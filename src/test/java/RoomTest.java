@@ -14,7 +14,7 @@ public final class RoomTest {
         long fresh = made();
         fill(m);
         long full = made();
-        use(m, 20);
+        use(m, 16);
         long used = made();
         Due.holds("a new object is small: " + (fresh - start), fresh - start <= MOST_BYTES_OF_A_NEW_ONE);
         Due.holds("a full object is small: " + (full - start), full - start <= MOST_BYTES_OF_A_FULL_ONE);
