@@ -11,6 +11,7 @@ public final class EdgesTest {
         } else {
             System.out.println(file + " is not there: the sentences are tested, but not looked up");
         }
+        FirstLineEdges.all();
         TermsEdges.all();
         RefusalsEdges.all();
         ThingsEdges.all();

@@ -41,6 +41,11 @@ final class Run {
         return this;
     }
 
+    /** What one call answers, whatever it is. */
+    long asks(String name, int... a) {
+        return make(new Call(name, a));
+    }
+
     /** The answers of calls whose last number is asked for from 0 on: "told(0, *)". */
     Run dueAll(String text, long... want) {
         for (int i = 0; i < want.length; i++) {

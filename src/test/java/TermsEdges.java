@@ -207,6 +207,13 @@ final class TermsEdges {
         // The later pass is nearer by a little: 36 / 37 against 1.
         new Run(rests + "thing(0, -5, 1, 0, 0) place(1, 12, 1, 0) place(1, 0, -1, 0) place(1, 0, -1, 0)")
             .dueAll("least(0, 1, *)", 36, 37, 1, 73, 74);
+        // The whole numbers are the same, the fractions are not: 1 / 2 ahead of 1 / 10, behind it, and twice.
+        new Run(rests + "thing(0, 1, 0, 0, 0) place(1, 0, 1, 0) place(1, 2, 1, 0) place(1, -1, 0, 0)")
+            .dueAll("least(0, 1, *)", 1, 10, 2, 7, 10);
+        new Run(rests + "thing(0, -1, 0, 0, 0) place(1, 2, 1, 0) place(1, 0, 1, 0) place(1, 1, 0, 0)")
+            .dueAll("least(0, 1, *)", 1, 10, 0, 3, 10);
+        new Run(rests + "thing(0, 1, 0, 0, 0) place(1, 0, 1, 0) place(1, 1, 0, 0) place(1, 0, 1, 0)")
+            .dueAll("least(0, 1, *)", 1, 2, 0, 1, 2);
     }
 
     private static void fractionBelow1() {
